@@ -77,8 +77,7 @@ public final class LoanServicing {
             throw new IllegalArgumentException();
         }
         remember();
-        now.startLoan(principal, rate, installments, convention);
-        now.chooseInstallment(projection);
+        now.startLoan(principal, rate, installments, convention, projection);
         now.historyStart = now.historyEnd;
         return (int) now.loan.installment;
     }
@@ -277,14 +276,20 @@ public final class LoanServicing {
             throw new IllegalArgumentException();
         }
         trial.takeFrom(now);
-        if (!tryCommands()) {
-            throw new UnsupportedOperationException();
+        for (int i = 0; i < text.commands; i++) {
+            int kind = text.kindOf(i);
+            int value = text.valueOf(i);
+            int reason = trial.refusal(kind, value);
+            if (reason != ACCEPTED) {
+                refusedNumber = i;
+                refusedReason = reason;
+                throw new UnsupportedOperationException();
+            }
+            history.note(trial, kind, value);
+            trial.carryOut(kind, value, projection, false);
         }
         remember();
         now.takeFrom(trial);
-        for (int i = 0; i < text.commands; i++) {
-            history.note(now, text.kindOf(i), text.valueOf(i));
-        }
         return text.commands;
     }
 
@@ -335,8 +340,7 @@ public final class LoanServicing {
         }
         trial.day = loan.firstDay;
         trial.takeRules(now.firstRules);
-        trial.startLoan((int) loan.firstPrincipal, loan.firstRate, loan.firstInstallments, loan.convention);
-        trial.chooseInstallment(projection);
+        trial.startLoan(loan.firstPrincipal, loan.firstRate, loan.firstInstallments, loan.convention, projection);
         for (int i = now.historyStart; i < now.historyEnd; i++) {
             int kind = history.kindAt(i);
             int value = history.valueAt(i);
@@ -445,19 +449,6 @@ public final class LoanServicing {
         undoable = Math.min(undoable + 1, MOST_UNDO);
     }
 
-    private boolean tryCommands() {
-        for (int i = 0; i < text.commands; i++) {
-            int reason = trial.refusal(text.kindOf(i), text.valueOf(i));
-            if (reason != ACCEPTED) {
-                refusedNumber = i;
-                refusedReason = reason;
-                return false;
-            }
-            trial.carryOut(text.kindOf(i), text.valueOf(i), projection, false);
-        }
-        return true;
-    }
-
     private void projectNow() {
         projection.startFrom(now, now.loan.remaining);
         projection.project(now.loan.installment, now.loan.remaining);
@@ -489,10 +480,12 @@ public final class LoanServicing {
         }
 
         static int monthsAfter(int day, int months) {
-            int sum = yearOf(day) * MONTHS + monthOf(day) + months;
+            int firstMonth = monthOf(day);
+            int place = day % YEAR - monthStart(firstMonth);
+            int sum = day / YEAR * MONTHS + firstMonth + months;
             int month = sum % MONTHS;
-            int lengthOfMonth = monthStart(month + 1) - monthStart(month);
-            return sum / MONTHS * YEAR + monthStart(month) + Math.min(numberOf(day), lengthOfMonth) - 1;
+            int lastPlace = monthStart(month + 1) - monthStart(month) - 1;
+            return sum / MONTHS * YEAR + monthStart(month) + Math.min(place, lastPlace);
         }
 
         static int counted(int from, int to, int convention) {
@@ -500,7 +493,9 @@ public final class LoanServicing {
         }
 
         private static int in360(int day) {
-            return 360 * yearOf(day) + 30 * monthOf(day) + Math.min(numberOf(day), 30);
+            int month = monthOf(day);
+            int place = day % YEAR - monthStart(month);
+            return day / YEAR * 360 + month * 30 + Math.min(place, 29);
         }
 
         private static int monthStart(int month) {
@@ -698,28 +693,25 @@ public final class LoanServicing {
         private int holidays;
         private final long[] sums = new long[SUMS];
 
-        void start(int amount, int percent, int installments, int counting) {
+        void start(int onDay, long ofPrincipal, int atRate, int installments, int countedBy) {
             exists = true;
-            convention = counting;
-            firstPrincipal = amount;
-            firstRate = percent;
+            convention = countedBy;
+            firstDay = onDay;
+            firstPrincipal = ofPrincipal;
+            firstRate = atRate;
             firstInstallments = installments;
-            rate = percent;
-            principal = amount;
+            rate = atRate;
+            principal = ofPrincipal;
             interest = 0;
             fees = 0;
             units = 0;
             remaining = installments;
+            nextDue = 1;
+            nextDueDay = Days.monthsAfter(onDay, nextDue);
             holidays = 0;
             for (int i = 0; i < sums.length; i++) {
                 sums[i] = 0;
             }
-        }
-
-        void startDueDays(int day) {
-            firstDay = day;
-            nextDue = 1;
-            nextDueDay = Days.monthsAfter(firstDay, nextDue);
         }
 
         /** Goes on to the next due day; returns whether the one that is left behind is a holiday. */
@@ -835,12 +827,13 @@ public final class LoanServicing {
         private int historyStart;
         private int historyEnd;
 
-        void startLoan(int principal, int rate, int installments, int convention) {
-            loan.start(principal, rate, installments, convention);
-            loan.startDueDays(day);
+        void startLoan(long principal, int rate, int installments, int convention, Projection projection) {
+            loan.start(day, principal, rate, installments, convention);
             bills.clear();
             ledger.clear();
             System.arraycopy(rules, 0, firstRules, 0, RULES);
+            projection.startFrom(this, installments);
+            loan.installment = projection.leastInstallment(installments);
         }
 
         void takeRules(int[] other) {
@@ -1029,18 +1022,13 @@ public final class LoanServicing {
             if (loan.remaining <= 0) {
                 return;
             }
+            projection.startFrom(this, most);
             if (rules[MODE] == 1) {
-                chooseInstallment(projection);
+                loan.installment = projection.leastInstallment(loan.remaining);
             } else {
-                projection.startFrom(this, most);
                 projection.project(loan.installment, most);
                 loan.remaining = projection.payments;
             }
-        }
-
-        void chooseInstallment(Projection projection) {
-            projection.startFrom(this, loan.remaining);
-            loan.installment = projection.leastInstallment(loan.remaining);
         }
     }
 

@@ -12,7 +12,6 @@ final class AgreementTest {
     private static long seed;
     private static int thrown;
     private static boolean isTextWhole;
-    private static final java.util.TreeMap<String, Integer> TOLD = new java.util.TreeMap<>();
 
     public static void main(String[] args) throws ReflectiveOperationException {
         List<Method> methods = new ArrayList<>();
@@ -27,7 +26,6 @@ final class AgreementTest {
             oneRun(run, methods);
         }
         Check.yes("calls throw often enough to be compared", thrown > RUNS * 20);
-        System.out.println(TOLD);
         Check.finish("AgreementTest");
     }
 
@@ -56,7 +54,6 @@ final class AgreementTest {
             String due = answer(twin, slow, arguments);
             String name = method.getName() + java.util.Arrays.toString(arguments);
             told.append(name).append(' ');
-            TOLD.merge(method.getName() + (got.startsWith("java") ? " " + got : ""), 1, Integer::sum);
             Check.same("run " + run + " call " + call + " " + name, got, due);
             if (!got.equals(due)) {
                 System.out.println(told);
