@@ -465,14 +465,10 @@ public final class LoanServicing {
         }
 
         static int monthOf(int day) {
+            // Months of 32 days would fall behind by less than one month in a year.
             int inYear = day % YEAR;
-            int month = 0;
-            for (int i = 1; i < MONTH_STARTS.length; i++) {
-                if (MONTH_STARTS[i] <= inYear) {
-                    month = i;
-                }
-            }
-            return month;
+            int next = inYear / 32 + 1;
+            return next >= 0 && next < MONTH_STARTS.length && MONTH_STARTS[next] <= inYear ? next : next - 1;
         }
 
         static int numberOf(int day) {

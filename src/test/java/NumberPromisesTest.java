@@ -195,7 +195,7 @@ final class NumberPromisesTest {
         x.begin(10000, 0, 10, 2);
         x.setRate(2000);
         Check.equal("the eleventh does not reach for the interest, too", x.scheduleLength(), 12);
-        Check.equal("what the twelfth pays", x.schedule(11, 1), 32);
+        Check.equal("what the twelfth pays", x.schedule(11, 1), 30);
         x.begin(59, 0, 60, 0);
         Check.equal("59 cents", x.scheduleLength(), 59);
         x.begin(10000000, 2000, 60, 0);
