@@ -1,12 +1,9 @@
-import java.lang.reflect.InvocationTargetException;
 import java.lang.reflect.Method;
-import java.util.ArrayList;
-import java.util.Comparator;
 import java.util.List;
 
 /** Runs of 512 calls, the same ones every time, on LoanServicing and on SlowLoan: every answer must be the same. */
 final class AgreementTest {
-    private static final int RUNS = 240;
+    private static final int RUNS = 1500;
     private static final int CALLS = 512;
 
     private static long seed;
@@ -14,13 +11,7 @@ final class AgreementTest {
     private static boolean isTextWhole;
 
     public static void main(String[] args) throws ReflectiveOperationException {
-        List<Method> methods = new ArrayList<>();
-        for (Method method : LoanServicing.class.getDeclaredMethods()) {
-            if (java.lang.reflect.Modifier.isPublic(method.getModifiers())) {
-                methods.add(method);
-            }
-        }
-        methods.sort(Comparator.comparing(Method::getName));
+        List<Method> methods = Calls.ofTheFace();
         for (int run = 0; run < RUNS; run++) {
             seed = 1000003L * run + 17;
             oneRun(run, methods);
@@ -49,9 +40,10 @@ final class AgreementTest {
                     isTextWhole = pending.isEmpty();
                 }
             }
-            String got = answer(method, loan, arguments);
+            String got = Calls.answer(method, loan, arguments);
             Method twin = SlowLoan.class.getDeclaredMethod(method.getName(), method.getParameterTypes());
-            String due = answer(twin, slow, arguments);
+            String due = Calls.answer(twin, slow, arguments);
+            thrown += Calls.isException(due) ? 1 : 0;
             String name = method.getName() + java.util.Arrays.toString(arguments);
             told.append(name).append(' ');
             Check.same("run " + run + " call " + call + " " + name, got, due);
@@ -191,15 +183,6 @@ final class AgreementTest {
             made.setCharAt(below(made.length()), "pdrhw;0123456789 x".charAt(below(18)));
         }
         return made.toString();
-    }
-
-    private static String answer(Method method, Object target, Object[] arguments) throws ReflectiveOperationException {
-        try {
-            return String.valueOf(method.invoke(target, arguments));
-        } catch (InvocationTargetException wrapped) {
-            thrown++;
-            return wrapped.getCause().getClass().getName();
-        }
     }
 
     private static int below(int bound) {

@@ -1,9 +1,6 @@
 import java.lang.reflect.InvocationTargetException;
 import java.lang.reflect.Method;
-import java.lang.reflect.Modifier;
-import java.util.ArrayList;
 import java.util.Arrays;
-import java.util.Comparator;
 import java.util.List;
 
 /**
@@ -20,13 +17,7 @@ final class RobustnessTest {
     private static long seed;
 
     public static void main(String[] args) throws ReflectiveOperationException {
-        List<Method> methods = new ArrayList<>();
-        for (Method method : LoanServicing.class.getDeclaredMethods()) {
-            if (Modifier.isPublic(method.getModifiers())) {
-                methods.add(method);
-            }
-        }
-        methods.sort(Comparator.comparing(Method::getName));
+        List<Method> methods = Calls.ofTheFace();
         for (int run = 0; run < RUNS; run++) {
             seed = 77L * run + 5;
             anyCalls(run, methods);

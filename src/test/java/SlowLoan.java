@@ -132,8 +132,8 @@ final class SlowLoan {
         }
 
         long centsOfUnits() {
-            // the nearest whole number, upwards in the middle
-            long cents = 0;
+            // the nearest whole number, upwards in the middle; looked for from one close to it
+            long cents = units / centUnits();
             while (2 * (units - cents * centUnits()) >= centUnits()) {
                 cents++;
             }
