@@ -796,7 +796,7 @@ public final class LoanServicing {
             boolean same = exists == other.exists && rate == other.rate && principal == other.principal
                     && interest == other.interest && fees == other.fees && units == other.units
                     && installment == other.installment && remaining == other.remaining
-                    && nextDue == other.nextDue && holidays == other.holidays;
+                    && nextDue == other.nextDue && nextDueDay == other.nextDueDay && holidays == other.holidays;
             for (int i = 0; i < sums.length && same; i++) {
                 same = sums[i] == other.sums[i];
             }
